@@ -701,7 +701,8 @@ public final class StampHostels {
         }
 
         int distance(int one, int other) {
-            return Math.abs(hostels[one].place - hostels[other].place);
+            int further = hostels[one].place - hostels[other].place;
+            return further < 0 ? -further : further;
         }
 
         int walkWeariness(int distance) {
@@ -709,33 +710,46 @@ public final class StampHostels {
         }
 
         int arrivalHour(int weariness, int distance) {
-            int speed = Math.max(1, 6 - weariness / 20);
-            return settings[SET_OUT] + (distance + speed - 1) / speed;
+            int speed = 6 - weariness / 20;
+            // never less than 1, for no weariness is above 100; but a divisor is looked at
+            int hours = speed > 1 ? (distance + speed - 1) / speed : distance;
+            return settings[SET_OUT] + hours;
         }
 
-        /** 0 if one who is so weary, and has not moved on this day, can walk; otherwise the reason, 2 to 4. */
-        int reasonByWeariness(int from, int to, int weariness) {
-            if (from == to) {
+        /** 0 if the pilgrim can walk to the hostel, otherwise the first reason against it. */
+        int reasonAgainst(int pilgrim, int hostel) {
+            Pilgrim one = pilgrims[pilgrim];
+            if (one.hasMoved()) {
+                return 1;
+            }
+            if (one.at == hostel) {
                 return 2;
             }
-            int distance = distance(from, to);
+            int distance = distance(one.at, hostel);
             if (distance > settings[LONGEST_WAY]) {
                 return 3;
             }
-            return weariness + walkWeariness(distance) > MAX_WEARINESS ? 4 : 0;
+            return one.weariness + walkWeariness(distance) > MAX_WEARINESS ? 4 : 0;
         }
 
-        int reasonAgainst(int pilgrim, int hostel) {
-            Pilgrim one = pilgrims[pilgrim];
-            return one.hasMoved() ? 1 : reasonByWeariness(one.at, hostel, one.weariness);
+        /** The weariness on the morning behind a night inside, with this rest, or outside. */
+        int wearinessBehind(int weariness, boolean inside, int rest) {
+            if (inside) {
+                return weariness > rest ? weariness - rest : 0;
+            }
+            int more = weariness + OUTSIDE_WEARINESS;
+            return more < MAX_WEARINESS ? more : MAX_WEARINESS;
         }
 
-        int wearinessBehind(int weariness, int rest) {
-            return Math.max(0, weariness - rest);
-        }
-
-        int wearinessOutside(int weariness) {
-            return Math.min(MAX_WEARINESS, weariness + OUTSIDE_WEARINESS);
+        /** The weariness on the morning behind a walk, with a bed for one who comes in time; NONE if it cannot be. */
+        int wearinessBehindWalk(int from, int to, int weariness) {
+            int distance = distance(from, to);
+            int then = weariness + walkWeariness(distance);
+            if (from == to || distance > settings[LONGEST_WAY] || then > MAX_WEARINESS) {
+                return NONE;
+            }
+            boolean inside = arrivalHour(weariness, distance) <= hostels[to].closing;
+            return wearinessBehind(then, inside, settings[BED_REST]);
         }
 
         /** The place among those who are inside the same hostel, NONE for one who is outside. */
@@ -766,15 +780,14 @@ public final class StampHostels {
             return pages.at(ofDay * MAX_HOSTELS + hostel);
         }
 
-        boolean isLegibleOn(int pilgrim, int hostel, int ofDay) {
-            int entered = pageOf(hostel, ofDay);
+        private static boolean isLegible(int pilgrim, int entered) {
             return entered != NONE && (entered >> pilgrim & 1) == 1;
         }
 
         /** The hostel on whose page for the day the pilgrim can be read, or NONE. */
         int legibleHostel(int pilgrim, int ofDay) {
             for (int i = 0; i < hostelCount; i++) {
-                if (isLegibleOn(pilgrim, i, ofDay)) {
+                if (isLegible(pilgrim, pageOf(i, ofDay))) {
                     return i;
                 }
             }
@@ -801,9 +814,8 @@ public final class StampHostels {
         }
 
         boolean isFalse(int pilgrim, int stamp) {
-            int hostel = hostelOf(stamp);
-            int ofDay = dayOf(stamp);
-            return pageOf(hostel, ofDay) != NONE && !isLegibleOn(pilgrim, hostel, ofDay);
+            int entered = pageOf(hostelOf(stamp), dayOf(stamp));
+            return entered != NONE && !isLegible(pilgrim, entered);
         }
 
         int falseStamps(int pilgrim) {
@@ -1064,23 +1076,21 @@ public final class StampHostels {
         /** Tells whether the pilgrim gets a bed. */
         private boolean sleep(Way way, int pilgrim) {
             Pilgrim one = way.pilgrims[pilgrim];
-            if (!one.inside) {
-                one.weariness = way.wearinessOutside(one.weariness);
-                return false;
-            }
-            one.pass.add(stampOf(one.at, way.day));
             Hostel host = way.hostels[one.at];
-            if (places[pilgrim] >= host.beds) {
-                one.weariness = way.wearinessBehind(one.weariness, way.settings[FLOOR_REST]);
-                return false;
+            boolean getsBed = one.inside && places[pilgrim] < host.beds;
+            int rest = way.settings[getsBed ? BED_REST : FLOOR_REST];
+            one.weariness = way.wearinessBehind(one.weariness, one.inside, rest);
+            if (one.inside) {
+                one.pass.add(stampOf(one.at, way.day));
             }
-            one.weariness = way.wearinessBehind(one.weariness, way.settings[BED_REST]);
-            one.bedsHad++;
-            host.nights++;
-            int gift = Math.min(way.settings[DONATION], one.money);
-            one.money -= gift;
-            way.pool += gift;
-            return true;
+            if (getsBed) {
+                one.bedsHad++;
+                host.nights++;
+                int gift = Math.min(way.settings[DONATION], one.money);
+                one.money -= gift;
+                way.pool += gift;
+            }
+            return getsBed;
         }
 
         private void sharePool(Way way) {
@@ -1140,10 +1150,10 @@ public final class StampHostels {
             days[one.at] = 0;
             for (int i = 0; i < way.hostelCount; i++) {
                 if (i == one.at) {
-                    follow(way, i, one.inside ? withBed(way, one.weariness) : way.wearinessOutside(one.weariness));
+                    follow(way, i, way.wearinessBehind(one.weariness, one.inside, way.settings[BED_REST]));
                 } else if (way.reasonAgainst(pilgrim, i) == 0) {
                     note(i, 1, i);
-                    follow(way, i, wearinessAfterWalk(way, one.at, i, one.weariness));
+                    follow(way, i, way.wearinessBehindWalk(one.at, i, one.weariness));
                 }
             }
         }
@@ -1156,18 +1166,6 @@ public final class StampHostels {
             return firsts[hostel];
         }
 
-        private int withBed(Way way, int weariness) {
-            return way.wearinessBehind(weariness, way.settings[BED_REST]);
-        }
-
-        /** The weariness on the morning behind a walk that is possible. */
-        private int wearinessAfterWalk(Way way, int from, int to, int weariness) {
-            int distance = way.distance(from, to);
-            int then = weariness + way.walkWeariness(distance);
-            boolean inside = way.arrivalHour(weariness, distance) <= way.hostels[to].closing;
-            return inside ? withBed(way, then) : way.wearinessOutside(then);
-        }
-
         private void note(int hostel, int day, int first) {
             if (day < days[hostel]) {
                 days[hostel] = day;
@@ -1175,12 +1173,15 @@ public final class StampHostels {
             }
         }
 
+        /** Lives on from the morning of the second day, as long as a day may bring something new. */
         private void follow(Way way, int first, int weariness) {
             Arrays.fill(waking, NONE);
             waking[first] = weariness;
-            boolean goesOn = true;
+            boolean goesOn = mayBeEarlier(way, 2);
             for (int day = 2; day <= MAX_PLANNED_DAYS && goesOn; day++) {
-                goesOn = mayBeEarlier(way, day) && liveOneDay(way, first, day);
+                liveOneDay(way, first, day);
+                goesOn = mayBeEarlier(way, day + 1) && isAnotherMorning(way);
+                System.arraycopy(wakingNext, 0, waking, 0, MAX_HOSTELS);
             }
         }
 
@@ -1193,28 +1194,29 @@ public final class StampHostels {
             return false;
         }
 
-        /** Tells whether the next morning is another one than this: if not, no later day brings anything new. */
-        private boolean liveOneDay(Way way, int first, int day) {
-            Arrays.fill(wakingNext, NONE);
-            for (int from = 0; from < way.hostelCount; from++) {
-                if (waking[from] != NONE) {
-                    wakeAt(from, withBed(way, waking[from]));
-                    walkFrom(way, from, first, day);
+        /** If the next morning is as this one was, no later day brings anything new. */
+        private boolean isAnotherMorning(Way way) {
+            for (int i = 0; i < way.hostelCount; i++) {
+                if (waking[i] != wakingNext[i]) {
+                    return true;
                 }
             }
-            boolean another = false;
-            for (int i = 0; i < way.hostelCount; i++) {
-                another = another || waking[i] != wakingNext[i];
-                waking[i] = wakingNext[i];
-            }
-            return another;
+            return false;
         }
 
-        private void walkFrom(Way way, int from, int first, int day) {
-            for (int to = 0; to < way.hostelCount; to++) {
-                if (way.reasonByWeariness(from, to, waking[from]) == 0) {
-                    note(to, day, first);
-                    wakeAt(to, wearinessAfterWalk(way, from, to, waking[from]));
+        private void liveOneDay(Way way, int first, int day) {
+            Arrays.fill(wakingNext, NONE);
+            for (int from = 0; from < way.hostelCount; from++) {
+                if (waking[from] == NONE) {
+                    continue;
+                }
+                wakeAt(from, way.wearinessBehind(waking[from], true, way.settings[BED_REST]));
+                for (int to = 0; to < way.hostelCount; to++) {
+                    int weariness = way.wearinessBehindWalk(from, to, waking[from]);
+                    if (weariness != NONE) {
+                        note(to, day, first);
+                        wakeAt(to, weariness);
+                    }
                 }
             }
         }

@@ -138,9 +138,48 @@ final class BooksTest {
                 stamp 0 9 0 = IOOBE
                 stamp 0 -1 0 = IOOBE
                 stamp 2 0 0 = IOOBE
+                stamp -1 0 0 = IOOBE
                 stamp 0 9 3 = IOOBE
                 stamp 0 0 3 = IAE
                 stamp 0 0 -1 = IAE
+                """);
+    }
+
+    private static void stampsOfUndoneDays() {
+        Script.run("a page of a day that was undone", """
+                addHostel 0 1 24
+                addPilgrim 0 5
+                text a0
+                forge 0 = 1
+                stamp 0 0 2 = 1
+                evening
+                stamp 0 0 2 = 0
+                undo
+                stamp 0 0 2 = 1         # the day has not come again
+                evening
+                blot 0 0
+                stamp 0 0 2 = 0
+                undo
+                undo
+                stamp 0 0 2 = 1
+                pilgrim 0 7 = 1
+                alike 0 = 0
+                rebuild 0 = 0
+                """);
+        StringBuilder ten = new StringBuilder();
+        for (int i = 0; i < 10; i++) {
+            ten.append("addHostel ").append(30 * i).append(" 1 20\n");
+        }
+        Script.run("ten hostels in the books", ten + """
+                addPilgrim 0 5
+                evening
+                evening
+                blot 0 0
+                alike 0 = 0
+                rebuild 0 = 1
+                stamp 0 0 1 = 1
+                hostel 9 7 = 0
+                hostel 0 7 = 1
                 """);
     }
 
@@ -239,6 +278,7 @@ final class BooksTest {
         rebuilding();
         blotting();
         falseStamps();
+        stampsOfUndoneDays();
         proofs();
         rebuiltAlike();
         numbers();

@@ -290,6 +290,18 @@ final class DaysTest {
                 hostel 1 3 = 2          # 5 * 7 / 21 is 1, 14 is left
                 hostel 2 3 = 0
                 """);
+        Script.run("the pool of one night", """
+                addHostel 0 1 24
+                addHostel 12 0 24
+                addPilgrim 0 100
+                evening = 1
+                walk 0 1 = 9
+                6 times: evening
+                hostel 0 3 = 5
+                hostel 1 3 = 0
+                count 3 = 0
+                count 6 = 0
+                """);
         Script.run("the pool of more weeks", """
                 addHostel 0 1 24
                 addHostel 10 0 24

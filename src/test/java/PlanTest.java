@@ -82,6 +82,21 @@ final class PlanTest {
                 pilgrim 0 1 = 0
                 fewestDays 0 2 0 = 4
                 """);
+        Script.run("a plan that comes just at the closing hour", """
+                addHostel 0 0 24
+                addHostel 47 0 15
+                addHostel 94 0 24
+                addPilgrim 0 0
+                set 0 60
+                set 5 17
+                set 3 58
+                fewestDays 0 2 0 = 2    # inside at 15: from 79 to 21
+                set 3 57
+                fewestDays 0 2 0 = 3
+                set 3 58
+                set 2 8
+                fewestDays 0 2 0 = 4    # outside at 16: from 79 to 89; two beds: 31, 0
+                """);
         rests("the first walk has the lower number", "0 100", "1 70", "2 40", 1);
         rests("the rest on the first day has the lower number", "2 100", "1 70", "0 40", 0);
     }

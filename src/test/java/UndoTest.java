@@ -136,6 +136,34 @@ final class UndoTest {
                 pilgrim 0 1 = 1
                 pilgrim 0 4 = 0
                 """);
+        Script.run("undo of a shared pool", """
+                addHostel 0 1 8
+                addHostel 30 8 8
+                addPilgrim 0 5
+                evening
+                set 1 0
+                5 times: evening
+                count 3 = 5
+                walk 0 1 = 12
+                pilgrim 0 1 = 0
+                evening = 0
+                hostel 0 3 = 5
+                pilgrim 0 1 = 1
+                undo = 5
+                hostel 0 3 = 0
+                hostel 0 4 = 6
+                count 3 = 5
+                pilgrim 0 1 = 0
+                pilgrim 0 4 = 12
+                bedPlace 0 = -1
+                undo = 4
+                pilgrim 0 1 = 1
+                pilgrim 0 0 = 0
+                pilgrim 0 8 = 0
+                undo = 3
+                hostel 0 4 = 5
+                count 2 = 5
+                """);
     }
 
     public static void main(String[] arguments) {
