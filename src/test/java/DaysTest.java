@@ -290,6 +290,20 @@ final class DaysTest {
                 hostel 1 3 = 2          # 5 * 7 / 21 is 1, 14 is left
                 hostel 2 3 = 0
                 """);
+        StringBuilder ten = new StringBuilder();
+        for (int i = 0; i < 10; i++) {
+            ten.append("addHostel ").append(30 * i).append(" 8 24\n");
+        }
+        Script.run("the pool of ten hostels", ten + """
+                addPilgrim 9 7
+                addPilgrim 8 5
+                addPilgrim 0 5
+                7 times: evening
+                hostel 0 3 = 6          # 17 * 7 / 21 is 5, and 14 is left
+                hostel 8 3 = 6
+                hostel 9 3 = 5
+                hostel 1 3 = 0
+                """);
         Script.run("the pool of one night", """
                 addHostel 0 1 24
                 addHostel 12 0 24

@@ -201,9 +201,30 @@ final class PlanTest {
                 """);
     }
 
+    private static void tenHostels() {
+        StringBuilder lines = new StringBuilder();
+        for (int i = 0; i < 10; i++) {
+            lines.append("addHostel ").append(30 * i).append(" 8 24\n");
+        }
+        lines.append("addPilgrim 0 0\nset 0 29\nfewestDays 0 9 0 = -1\nfewestDays 0 1 1 = -1\nset 0 30\nset 5 1\n");
+        lines.append("fewestDays 0 9 0 = 9\nfewestDays 0 9 1 = 1\n30 times: evening\n");
+        for (int i = 0; i < 10; i++) {
+            for (int day = 0; day < 3; day++) {
+                lines.append("blot ").append(i).append(' ').append(day).append('\n');
+            }
+        }
+        Script.run("ten hostels", lines + """
+                readings 0 0 0 = 10
+                readings 0 0 1 = 28     # 2 neighbours or 3 for each, with itself
+                readings 0 0 2 = 80     # by the hostel of the day between: 2 * 4 and 8 * 9
+                readings 0 0 3 = 13     # then at hostel 0: 5 by hostel 0 ahead of it, 8 by hostel 1
+                """);
+    }
+
     public static void main(String[] arguments) {
         fewestDays();
         readings();
+        tenHostels();
         manyThatLeadNowhere();
         Script.end();
     }
