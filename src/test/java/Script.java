@@ -1,42 +1,94 @@
+import java.util.ArrayList;
+import java.util.List;
+
 /**
- * Runs of calls written as lines "call arguments = answer", each run on a new object. "throws IOOBE", "IAE" and "ISE"
- * stand for the three exceptions. "N times: call arguments" makes a call N times, "text X" appends all characters of X;
- * neither looks at the answers. What stands behind "#" is a remark.
+ * Runs of calls written as lines "call arguments = answer", each run on a new object. IOOBE, IAE and ISE stand for the
+ * three exceptions; where one is due, the run is made twice more, with that call and without it, and both objects must
+ * look the same. "= not IAE" lets all other answers stand, other exceptions too. "N times: call arguments" makes a call N
+ * times, "text X" appends all characters of X; neither looks at the answers. What stands behind "#" is a remark.
  */
 final class Script {
     private static int wrong;
     private static int looked;
 
-    private Script() {
+    private final String title;
+    private final List<String> made = new ArrayList<>();
+    private final Calls calls = new Calls(new StampHostels());
+
+    private Script(String title) {
+        this.title = title;
     }
 
     static void run(String title, String lines) {
-        Calls calls = new Calls(new StampHostels());
+        Script script = new Script(title);
         for (String whole : lines.split("\n")) {
             String line = whole.replaceAll("#.*", "").trim();
             if (!line.isEmpty()) {
-                step(title, calls, line);
+                script.step(line);
             }
         }
     }
 
-    private static void step(String title, Calls calls, String line) {
+    private void step(String line) {
         if (line.startsWith("text ")) {
             for (char c : line.substring(5).trim().toCharArray()) {
-                calls.answer("append", c);
+                make("append " + (int) c);
             }
         } else if (line.contains(" times: ")) {
             String[] parts = line.split(" times: ");
             for (int i = 0; i < Integer.parseInt(parts[0].trim()); i++) {
-                call(calls, parts[1]);
+                make(parts[1]);
             }
         } else {
             String[] sides = line.split("=", 2);
-            String got = call(calls, sides[0]);
-            if (sides.length == 2) {
-                due(title + ": " + sides[0].trim(), got, sides[1].trim());
+            if (sides.length == 1) {
+                make(line);
+                return;
+            }
+            String want = sides[1].trim();
+            if (want.startsWith("I")) {
+                changesNothing(sides[0].trim());
+            }
+            answered(sides[0].trim(), make(sides[0]), want);
+        }
+    }
+
+    private void answered(String call, String got, String want) {
+        if (want.startsWith("not ")) {
+            due(title + ": " + call + " answered " + got + "; " + want, got.equals(want.substring(4)), false);
+        } else {
+            due(title + ": " + call, got, want);
+        }
+    }
+
+    private String make(String call) {
+        made.add(call);
+        return call(calls, call);
+    }
+
+    private void changesNothing(String call) {
+        Calls with = again();
+        call(with, call);
+        due(title + ": " + call + " changes", difference(View.of(with), View.of(again())), "nothing");
+    }
+
+    private static String difference(String one, String other) {
+        String[] lines = one.split("\n");
+        String[] others = other.split("\n");
+        for (int i = 0; i < Math.min(lines.length, others.length); i++) {
+            if (!lines[i].equals(others[i])) {
+                return lines[i] + ", without it " + others[i];
             }
         }
+        return lines.length == others.length ? "nothing" : "how much is to be seen";
+    }
+
+    private Calls again() {
+        Calls again = new Calls(new StampHostels());
+        for (String one : made) {
+            call(again, one);
+        }
+        return again;
     }
 
     private static String call(Calls calls, String text) {
