@@ -250,6 +250,7 @@ final class AnswerEdgesTest {
                 """);
         limit(30, 2, 17, 47, "30");
         limit(31, 2, 16, 50, "-1");
+        rows();
         Script.run("and for 1 also if the pilgrim is there now", "addHostel 0 0 8\naddPilgrim 0 0\nfewestDays 0 0 1 = -1");
         Script.run("the lowest number of all such rows", """
                 addHostel 60 0 24
@@ -257,7 +258,9 @@ final class AnswerEdgesTest {
                 addHostel 30 0 24
                 addHostel 40 0 24
                 addHostel 0 0 24
+                addHostel 300 0 24
                 addPilgrim 4 0
+                fewestDays 0 5 0 = -1
                 fewestDays 0 0 0 = 2        # by 20, by 30 or by 40
                 fewestDays 0 0 1 = 1
                 set 0 35
@@ -285,6 +288,97 @@ final class AnswerEdgesTest {
                 fewestDays 0 9 0 = 5
                 fewestDays 0 9 1 = 1        # four ways of 60 and one of 30, which may be the first one
                 """);
+    }
+
+    private static void rows() {
+        Script.run("the lowest number of all such rows: 0", """
+                addHostel 30 0 24
+                addHostel 60 0 24
+                addHostel 0 0 24
+                addHostel 31 0 24
+                addPilgrim 2 0
+                fewestDays 0 1 0 = 2
+                fewestDays 0 1 1 = 0
+                fewestDays 0 0 1 = 0
+                """);
+        Script.run("or stays: at the hostel 0", """
+                addHostel 47 0 24
+                addHostel 0 0 24
+                addHostel 94 0 24
+                addPilgrim 1 0
+                set 0 60
+                set 5 17
+                set 3 2
+                fewestDays 0 2 0 = 30
+                fewestDays 0 2 1 = 0
+                """);
+        // with 20 of weariness two walks of 60 each need a rest, between them or ahead of them
+        String state = """
+                addHostel 30 0 24
+                addPilgrim 3 0
+                set 5 20
+                set 0 30
+                set 3 30
+                set 4 0
+                """;
+        Script.run("the hostel at which the pilgrim is for staying: the lowest number", """
+                addHostel 40 0 24
+                addHostel 70 0 24
+                addHostel 100 0 24
+                """ + state + """
+                walk 0 0
+                evening
+                pilgrim 0 3 = 20
+                fewestDays 0 2 0 = 3
+                fewestDays 0 2 1 = 0
+                """);
+        Script.run("the hostel at which the pilgrim is for staying: not the lowest number", """
+                addHostel 100 0 24
+                addHostel 70 0 24
+                addHostel 40 0 24
+                """ + state + """
+                walk 0 2
+                evening
+                pilgrim 0 3 = 20
+                fewestDays 0 0 0 = 3
+                fewestDays 0 0 1 = 1
+                """);
+        String[] between = {"addHostel 50 0 24\naddHostel 70 0 24\n", "addHostel 70 0 24\naddHostel 50 0 24\n"};
+        for (String two : between) {
+            Script.run("the least number of days: the less weary row", "addHostel 0 0 24\naddHostel 45 0 24\n" + two + """
+                    addHostel 95 0 24
+                    addHostel 140 0 24
+                    addPilgrim 0 0
+                    set 0 45
+                    set 5 20
+                    set 3 60
+                    fewestDays 0 4 0 = 3        # with 30 of weariness by 50, with 10 by 70
+                    fewestDays 0 5 0 = 4        # 10 and 90
+                    fewestDays 0 5 1 = 1
+                    """);
+        }
+        Script.run("one who is inside: not one who is outside on the present day", """
+                addHostel 0 0 24
+                addHostel 47 0 8
+                addHostel 94 0 24
+                addPilgrim 0 0
+                set 0 60
+                set 5 17
+                set 3 58
+                walk 0 1 = 15
+                pilgrim 0 1 = 0
+                fewestDays 0 2 0 = 4        # from 79 to 89; then two beds: 31, 0
+                fewestDays 0 2 1 = 1
+                """);
+        for (int closing = 14; closing <= 15; closing++) {
+            Script.run("one who is inside: at the closing hour " + closing, "addHostel 0 0 24\naddHostel 47 0 " + closing + "\n" + """
+                    addHostel 94 0 24
+                    addPilgrim 0 0
+                    set 0 60
+                    set 5 17
+                    set 3 58
+                    """ + "fewestDays 0 2 0 = " + (closing == 15 ? 2 : 4));
+        }
     }
 
     /** Two ways of this length, with as many beds between them as make so many days. */
@@ -378,6 +472,27 @@ final class AnswerEdgesTest {
         }
     }
 
+    /** One pilgrim of this weariness, 1 or a multiple of 10, and others of none. */
+    private static StampHostels wearyCrowd(int weary, int others) {
+        StampHostels way = new StampHostels();
+        way.addHostel(0, 0, 24);
+        way.addHostel(50, 0, 24);
+        way.addHostel(10, 0, 24);
+        way.set(0, 60);
+        way.addPilgrim(0, 0);
+        for (int i = 0; i < others; i++) {
+            way.addPilgrim(1, 0);
+        }
+        if (weary == 1) {
+            way.set(5, 1);
+            way.walk(0, 2);
+        } else if (weary > 0) {
+            way.set(5, weary / 5);
+            way.walk(0, 1);
+        }
+        return way;
+    }
+
     private static void digests(String title, StampHostels way, int... codes) {
         BigInteger whole = hash(listOf(way, codes));
         Script.due(title + ": digest", way.digest(), whole.longValue());
@@ -401,6 +516,11 @@ final class AnswerEdgesTest {
         digests("a hostel", crowd(1, 0));
         digests("a hostel and a pilgrim", crowd(1, 1));
         digests("10 hostels and 8 pilgrims", crowd(10, 8));
+        for (int weary : new int[] {0, 1, 10, 20, 30, 40, 50, 60, 70, 80, 90, 100}) {
+            for (int others = 0; others <= 7; others++) {
+                digests("a mean of " + weary + " / " + (others + 1), wearyCrowd(weary, others));
+            }
+        }
         StampHostels buffer = new StampHostels();
         int[] codes = new int[60];
         for (int i = 0; i < 60; i++) {

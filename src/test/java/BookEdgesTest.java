@@ -39,7 +39,9 @@ final class BookEdgesTest {
                 addPilgrim 0 0
                 evening
                 hostel 0 7 = 2
+                count 9 = 0
                 blot 0 0 = 2
+                count 9 = 1
                 page 0 0 = -1
                 hostel 0 7 = 0
                 rebuild 0 = 0
@@ -185,6 +187,30 @@ final class BookEdgesTest {
                 stamp 0 0 2 = 0
                 stamp 0 1 2 = 1
                 stamp 0 2 2 = 1
+                """);
+        Script.run("(also if the day has not come yet): an evening that was undone", """
+                addHostel 0 1 24
+                addHostel 40 1 24
+                addPilgrim 0 0
+                addPilgrim 1 0
+                text a0
+                forge 0 = 1
+                text b0
+                forge 1 = 1
+                evening
+                pilgrim 0 7 = 0
+                pilgrim 1 7 = 0
+                undo
+                pilgrim 0 7 = 1
+                pilgrim 1 7 = 1
+                evening
+                blot 0 0
+                blot 1 0
+                undo
+                undo
+                undo
+                stamp 0 0 2 = 1
+                stamp 1 0 2 = 1
                 """);
         Script.run("no false stamp in an empty pass", THREE + "pilgrim 0 7 = 0\n");
     }

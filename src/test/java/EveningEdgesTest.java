@@ -301,6 +301,17 @@ final class EveningEdgesTest {
                 count 2 = 7
                 evening = 0
                 """);
+        Script.run("and there are nights: one", """
+                addHostel 0 1 24
+                addHostel 12 0 24
+                addPilgrim 0 100
+                evening = 1
+                walk 0 1 = 9
+                6 times: evening
+                hostel 0 3 = 5
+                count 3 = 0
+                count 6 = 0
+                """);
         Script.run("and there are nights: an empty pool", """
                 addHostel 0 1 24
                 addPilgrim 0 0

@@ -5,7 +5,9 @@ import java.util.List;
  * Runs of calls written as lines "call arguments = answer", each run on a new object. IOOBE, IAE and ISE stand for the
  * three exceptions; where one is due, the run is made twice more, with that call and without it, and both objects must
  * look the same. "= not IAE" lets all other answers stand, other exceptions too. "N times: call arguments" makes a call N
- * times, "text X" appends all characters of X; neither looks at the answers. What stands behind "#" is a remark.
+ * times, "text X" appends all characters of X; neither looks at the answers. "undone: call arguments" makes the run twice
+ * more, with that call and an undo, and without both: fewer than 6 states must be saved then. What stands behind "#" is a
+ * remark.
  */
 final class Script {
     private static int wrong;
@@ -34,6 +36,8 @@ final class Script {
             for (char c : line.substring(5).trim().toCharArray()) {
                 make("append " + (int) c);
             }
+        } else if (line.startsWith("undone: ")) {
+            isUndone(line.substring(8).trim());
         } else if (line.contains(" times: ")) {
             String[] parts = line.split(" times: ");
             for (int i = 0; i < Integer.parseInt(parts[0].trim()); i++) {
@@ -70,6 +74,15 @@ final class Script {
         Calls with = again();
         call(with, call);
         due(title + ": " + call + " changes", difference(View.of(with), View.of(again())), "nothing");
+    }
+
+    private void isUndone(String call) {
+        Calls with = again();
+        String before = call(with, "digest");
+        due(title + ": " + call + " throws", call(with, call).startsWith("I"), false);
+        due(title + ": " + call + " changes the digest", call(with, "digest").equals(before), false);
+        call(with, "undo");
+        due(title + ": " + call + " and undo change", difference(View.of(with), View.of(again())), "nothing");
     }
 
     private static String difference(String one, String other) {

@@ -293,6 +293,72 @@ final class TextEdgesTest {
                 """);
     }
 
+    /** A state of many days in which no state is saved, so that undo drops none. */
+    private static final String NOTHING_SAVED = """
+            addHostel 0 1 24
+            addHostel 30 2 12
+            addHostel 40 0 8
+            addPilgrim 0 1000
+            addPilgrim 1 100
+            addPilgrim 1 7
+            evening
+            ride 0 1
+            evening
+            blot 0 0
+            evening
+            evening
+            text a9
+            forge 2
+            evening
+            evening
+            walk 1 2
+            6 times: set 0 40
+            6 times: undo
+            """;
+
+    private static void everything() {
+        Script.run("saves the state from before it: all but the buffer and the saved states", NOTHING_SAVED + """
+                count 11 = 0
+                undone: addHostel 7 3 17
+                undone: addPilgrim 2 11
+                undone: set 0 41
+                undone: set 1 6
+                undone: set 2 8
+                undone: set 3 41
+                undone: set 4 11
+                undone: set 5 9
+                undone: set 6 11
+                undone: walk 0 0
+                undone: walk 0 2
+                undone: ride 0 0
+                undone: ride 0 2
+                undone: evening             # the pool is shared
+                undone: lose 0
+                undone: lose 2
+                undone: rebuild 0
+                undone: rebuild 2
+                undone: blot 1 1
+                undone: blot 2 5
+                append 33
+                undone: evening
+                evening = 2
+                undone: evening
+                undone: walk 1 1
+                undone: ride 1 0
+                set 0 45
+                undone: evening
+                walk 0 0 = 12
+                undone: evening
+                ride 2 2 = ISE
+                walk 2 2 = 9
+                undone: evening
+                blot 1 6 = 2
+                undone: evening
+                count 11 = 5
+                undone: lose 1
+                """);
+    }
+
     /** Calls that change nothing, of each method that is marked "undoable" and can change nothing, and others. */
     private static void eachUndoable() {
         String[] calls = {"set 0 40", "lose 0", "rebuild 0", "evening", "addHostel 5 1 20", "addPilgrim 0 0", "walk 0 1",
@@ -332,6 +398,7 @@ final class TextEdgesTest {
         manyStamps();
         undo();
         eachUndoable();
+        everything();
         Script.end();
     }
 }
