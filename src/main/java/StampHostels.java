@@ -64,8 +64,8 @@ public final class StampHostels {
     // ---- hostels, pilgrims, settings
 
     public int addHostel(int place, int beds, int closing) throws IllegalArgumentException, IllegalStateException {
-        if (isOutside(place, 0, MAX_PLACE) || isOutside(beds, 0, MAX_BEDS)
-                || isOutside(closing, MIN_CLOSING, MAX_CLOSING)) {
+        if (isOutOfRange(place, 0, MAX_PLACE) || isOutOfRange(beds, 0, MAX_BEDS)
+                || isOutOfRange(closing, MIN_CLOSING, MAX_CLOSING)) {
             throw new IllegalArgumentException("place, beds or closing hour out of range");
         }
         if (way.hostelCount >= MAX_HOSTELS || way.isPlaceTaken(place)) {
@@ -80,7 +80,7 @@ public final class StampHostels {
     public int addPilgrim(int hostel, int money)
             throws IndexOutOfBoundsException, IllegalArgumentException, IllegalStateException {
         needHostel(hostel);
-        if (isOutside(money, 0, MAX_MONEY)) {
+        if (isOutOfRange(money, 0, MAX_MONEY)) {
             throw new IllegalArgumentException("money out of range");
         }
         if (way.pilgrimCount >= MAX_PILGRIMS) {
@@ -94,7 +94,7 @@ public final class StampHostels {
 
     public int set(int setting, int value) throws IndexOutOfBoundsException, IllegalArgumentException {
         needSetting(setting);
-        if (isOutside(value, LOWEST[setting], GREATEST[setting])) {
+        if (isOutOfRange(value, LOWEST[setting], GREATEST[setting])) {
             throw new IllegalArgumentException("value out of range");
         }
         saved.push(way);
@@ -185,7 +185,7 @@ public final class StampHostels {
     // ---- texts
 
     public int append(int code) throws IllegalArgumentException, IllegalStateException {
-        if (isOutside(code, MIN_CODE, MAX_CODE)) {
+        if (isOutOfRange(code, MIN_CODE, MAX_CODE)) {
             throw new IllegalArgumentException("not a character of a text");
         }
         if (text.length >= MAX_TEXT) {
@@ -290,7 +290,7 @@ public final class StampHostels {
     public int stamp(int pilgrim, int stamp, int what) throws IndexOutOfBoundsException, IllegalArgumentException {
         needPilgrim(pilgrim);
         Row pass = way.pilgrims[pilgrim].pass;
-        if (isOutside(stamp, 0, pass.size - 1)) {
+        if (isOutOfRange(stamp, 0, pass.size - 1)) {
             throw new IndexOutOfBoundsException("no such stamp");
         }
         int told = pass.at(stamp);
@@ -365,7 +365,7 @@ public final class StampHostels {
             throws IndexOutOfBoundsException, IllegalArgumentException {
         needPilgrim(pilgrim);
         needHostel(hostel);
-        if (isOutside(what, 0, 1)) {
+        if (isOutOfRange(what, 0, 1)) {
             throw new IllegalArgumentException("neither the days nor the first hostel");
         }
         plan.make(way, pilgrim);
@@ -376,7 +376,7 @@ public final class StampHostels {
         needPilgrim(pilgrim);
         needPastDay(from);
         needPastDay(to);
-        if (isOutside(to, from, from + MAX_READ_DAYS - 1)) {
+        if (isOutOfRange(to, from, from + MAX_READ_DAYS - 1)) {
             throw new IllegalArgumentException("days out of range");
         }
         return reader.waysToRead(way, pilgrim, from, to);
@@ -463,30 +463,30 @@ public final class StampHostels {
     // ---- what arguments must be
 
     private void needHostel(int hostel) throws IndexOutOfBoundsException {
-        if (isOutside(hostel, 0, way.hostelCount - 1)) {
+        if (isOutOfRange(hostel, 0, way.hostelCount - 1)) {
             throw new IndexOutOfBoundsException("no such hostel");
         }
     }
 
     private void needPilgrim(int pilgrim) throws IndexOutOfBoundsException {
-        if (isOutside(pilgrim, 0, way.pilgrimCount - 1)) {
+        if (isOutOfRange(pilgrim, 0, way.pilgrimCount - 1)) {
             throw new IndexOutOfBoundsException("no such pilgrim");
         }
     }
 
     private void needPastDay(int day) throws IllegalArgumentException {
-        if (isOutside(day, 0, way.day - 1)) {
+        if (isOutOfRange(day, 0, way.day - 1)) {
             throw new IllegalArgumentException("day out of range");
         }
     }
 
     private static void needSetting(int setting) throws IndexOutOfBoundsException {
-        if (isOutside(setting, 0, SETTINGS - 1)) {
+        if (isOutOfRange(setting, 0, SETTINGS - 1)) {
             throw new IndexOutOfBoundsException("no such setting");
         }
     }
 
-    private static boolean isOutside(int value, int lowest, int greatest) {
+    private static boolean isOutOfRange(int value, int lowest, int greatest) {
         return value < lowest || value > greatest;
     }
 
@@ -579,7 +579,6 @@ public final class StampHostels {
         }
     }
 
-    /** A hostel. */
     private static final class Hostel {
         int place;
         int beds;

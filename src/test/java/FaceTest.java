@@ -84,12 +84,22 @@ final class FaceTest {
             }
         }
         Script.due("at most 12 classes", face.getDeclaredClasses().length <= 11, true);
+        fewFields(face);
         for (Class<?> inside : face.getDeclaredClasses()) {
             Script.due(inside + " is private and static",
                     Modifier.isPrivate(inside.getModifiers()) && Modifier.isStatic(inside.getModifiers()), true);
+            fewFields(inside);
             for (Method method : inside.getDeclaredMethods()) {
                 Script.due(method + " bears a public name", publicNames.contains(method.getName()), false);
             }
         }
+    }
+
+    private static void fewFields(Class<?> one) {
+        int fields = 0;
+        for (Field field : one.getDeclaredFields()) {
+            fields += Modifier.isStatic(field.getModifiers()) ? 0 : 1;
+        }
+        Script.due(one + " has few fields", fields <= 20, true);
     }
 }

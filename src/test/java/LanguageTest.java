@@ -19,6 +19,7 @@ final class LanguageTest {
 
     public static void main(String[] arguments) throws IOException {
         Path path = Path.of("src/main/java/StampHostels.java");
+        Script.due("the program has signs 1 to 127 alone", Files.readString(path).matches("(?s)[\\x01-\\x7f]*"), true);
         String text = Files.readString(path).replaceAll("(?s)/\\*.*?\\*/", "").replaceAll("//[^\n]*", "");
         for (String one : FORBIDDEN) {
             Matcher matcher = Pattern.compile(one).matcher(text);
